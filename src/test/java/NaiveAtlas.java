@@ -5,7 +5,6 @@ import java.util.LinkedHashMap;
 import java.util.List;
 import java.util.Map;
 
-
 /**
  * The document's words once more, as slowly and as literally as they stand: areas cell by cell from
  * the corners, ways degree by degree, the folded sheet as piles of panels.
@@ -27,6 +26,7 @@ final class NaiveAtlas {
     private final int[] width = new int[10];
     private final int[] height = new int[10];
     private final int[] truth = new int[9];
+    private final int[] zoneOf = new int[360];
     private int breadth = 15;
     private int columns = 1;
     private int rows = 1;
@@ -40,6 +40,7 @@ final class NaiveAtlas {
             height[k] = 1000 * k;
         }
         java.util.Arrays.fill(truth, 1000);
+        cutZones();
         layOut();
     }
 
@@ -226,16 +227,26 @@ final class NaiveAtlas {
         need(in(next, 1, 360) && 360 % next == 0);
         int before = breadth;
         breadth = next;
+        cutZones();
         return before;
+    }
+
+    private void cutZones() {
+        int zone = 0;
+        int left = breadth;
+        for (int k = 0; k < 360; k++) {
+            if (left == 0) {
+                zone++;
+                left = breadth;
+            }
+            zoneOf[k] = zone;
+            left--;
+        }
     }
 
     int zone(int longitude) {
         need(in(longitude, -180, 179));
-        int zone = 0;
-        while (-180 + (zone + 1) * breadth <= longitude) {
-            zone++;
-        }
-        return zone;
+        return zoneOf[longitude + 180];
     }
 
     int seams(int one, int other) {

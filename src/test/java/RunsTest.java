@@ -13,13 +13,13 @@ final class RunsTest {
     private final AtlasFolder atlas = new AtlasFolder();
     private final NaiveAtlas naive = new NaiveAtlas();
     private final int run;
-    private final int mostKinds;
+    private final int part;
     private long seed;
 
     private RunsTest(int run) {
         this.run = run;
-        // A third of the runs fold alone, a third leave folding out, so that states grow deep.
-        this.mostKinds = run % 3;
+        // A third of the runs only folds, a third leaves folding out, so that states grow deep.
+        this.part = run % 3;
         this.seed = 7919L * run + 1;
     }
 
@@ -66,8 +66,8 @@ final class RunsTest {
     }
 
     private void call() {
-        int kind = mostKinds == 0 ? next(0, KINDS - 1)
-                : mostKinds == 1 ? next(16, KINDS - 1) : next(0, 15);
+        int kind = part == 0 ? next(0, KINDS - 1)
+                : part == 1 ? next(16, KINDS - 1) : next(0, 15);
         if (kind < 4) {
             callTable(kind);
         } else if (kind < 10) {
