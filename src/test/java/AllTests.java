@@ -12,8 +12,10 @@ public final class AllTests {
         AreaTest.run();
         RingTest.run();
         SheetTest.run();
+        RefusedTest.run();
         RunsTest.run();
         SourceTest.run(Path.of(args.length > 0 ? args[0] : "src/main/java/AtlasFolder.java"));
+        Check.everyPromiseWasChecked();
         System.out.println(Check.sum());
         if (Check.failures() != 0) {
             System.exit(1);

@@ -1,6 +1,6 @@
 import java.util.Objects;
 
-/** Counts what is as due and prints what is not. */
+/** Counts what is as due, promise by promise, and prints what is not. */
 final class Check {
 
     /** A call that may throw. */
@@ -8,18 +8,34 @@ final class Check {
         Object make();
     }
 
+    private static final int PROMISES = 28;
+    private static final int NO_PROMISE = 0;
+    private static final int[] MADE = new int[PROMISES + 1];
+
+    private static int promise = NO_PROMISE;
     private static int good = 0;
     private static int bad = 0;
 
     private Check() {
     }
 
+    /** All checks that follow hold this promise of the document. */
+    static void promise(int number) {
+        promise = number;
+    }
+
+    static void noPromise() {
+        promise = NO_PROMISE;
+    }
+
     static void due(String what, Object want, Object got) {
+        MADE[promise]++;
         if (Objects.equals(want, got)) {
             good++;
         } else {
             bad++;
-            System.out.println(what + " answered " + got + ", due is " + want);
+            String heading = promise == NO_PROMISE ? "" : "promise " + promise + ": ";
+            System.out.println(heading + what + " answered " + got + ", due is " + want);
         }
     }
 
@@ -36,16 +52,11 @@ final class Check {
         }
     }
 
-    static void index(String what, Call call) {
-        due(what, "throws.IndexOutOfBoundsException", answer(call));
-    }
-
-    static void argument(String what, Call call) {
-        due(what, "throws.IllegalArgumentException", answer(call));
-    }
-
-    static void state(String what, Call call) {
-        due(what, "throws.IllegalStateException", answer(call));
+    static void everyPromiseWasChecked() {
+        noPromise();
+        for (int number = 1; number <= PROMISES; number++) {
+            isTrue("promise " + number + " has checks", MADE[number] > 0);
+        }
     }
 
     static int failures() {

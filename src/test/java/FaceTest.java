@@ -2,27 +2,40 @@ import java.lang.reflect.Constructor;
 import java.lang.reflect.Field;
 import java.lang.reflect.Method;
 import java.lang.reflect.Modifier;
-import java.util.Arrays;
 import java.util.List;
 import java.util.TreeSet;
 
 /** The public face, promise by promise, and nothing beside it (rules 1 and 5 of LANGUAGE.md). */
 final class FaceTest {
 
+    private static final String INDEX = " throws IndexOutOfBoundsException";
+    private static final String ARGUMENT = " throws IllegalArgumentException";
+    private static final String STATE = " throws IllegalStateException";
+    private static final String INDEX_ARGUMENT =
+            " throws IndexOutOfBoundsException, IllegalArgumentException";
+    private static final String ARGUMENT_STATE =
+            " throws IllegalArgumentException, IllegalStateException";
+
     private static final List<String> FACE = List.of(
-            "void table(int, int, int)", "int x(int, int)", "int y(int)", "int latitudeAt(int)",
-            "long area(int, int, int, int)", "long areaByCells(int, int, int, int)",
-            "int truth(int, int)", "boolean keepsAreas()", "int widest()", "float stretch(int)",
-            "int apart(int, int)", "int ringWay(int, int, int)", "int zones(int)", "int zone(int)",
-            "int seams(int, int)", "int dateLine(int, int)", "void sheet(int, int)",
-            "int foldColumns(int)", "int foldRows(int)", "int unfold()", "int panel(int, int)",
-            "int placeX(int, int)", "int placeY(int, int)", "int above(int, int)",
-            "boolean isUp(int, int)", "int thickness()", "int readable()");
+            "void table(int, int, int)" + INDEX_ARGUMENT + ", IllegalStateException",
+            "int x(int, int)" + ARGUMENT, "int y(int)" + ARGUMENT,
+            "int latitudeAt(int)" + ARGUMENT_STATE, "long area(int, int, int, int)" + ARGUMENT,
+            "long areaByCells(int, int, int, int)" + ARGUMENT,
+            "int truth(int, int)" + INDEX_ARGUMENT, "boolean keepsAreas()", "int widest()",
+            "float stretch(int)" + INDEX, "int apart(int, int)" + ARGUMENT,
+            "int ringWay(int, int, int)" + ARGUMENT, "int zones(int)" + ARGUMENT,
+            "int zone(int)" + ARGUMENT, "int seams(int, int)" + ARGUMENT,
+            "int dateLine(int, int)" + ARGUMENT, "void sheet(int, int)" + ARGUMENT,
+            "int foldColumns(int)" + STATE, "int foldRows(int)" + STATE, "int unfold()",
+            "int panel(int, int)" + ARGUMENT, "int placeX(int, int)" + INDEX,
+            "int placeY(int, int)" + INDEX, "int above(int, int)" + INDEX,
+            "boolean isUp(int, int)" + INDEX, "int thickness()", "int readable()");
 
     private FaceTest() {
     }
 
     static void run() {
+        Check.noPromise();
         Check.isTrue("the class is public", Modifier.isPublic(AtlasFolder.class.getModifiers()));
         Check.isTrue("the class is final", Modifier.isFinal(AtlasFolder.class.getModifiers()));
         constructorsAreTheDocuments();
@@ -35,6 +48,7 @@ final class FaceTest {
         Constructor<?>[] all = AtlasFolder.class.getDeclaredConstructors();
         Check.due("constructors", 1, all.length);
         Check.due("its parameters", 0, all[0].getParameterCount());
+        Check.due("its exceptions", 0, all[0].getExceptionTypes().length);
         Check.isTrue("it is public", Modifier.isPublic(all[0].getModifiers()));
     }
 
@@ -66,9 +80,18 @@ final class FaceTest {
     }
 
     private static String faceOf(Method method) {
-        String parameters = Arrays.toString(method.getParameterTypes());
+        String thrown = namesOf(method.getExceptionTypes());
         return method.getReturnType() + " " + method.getName()
-                + "(" + parameters.substring(1, parameters.length() - 1) + ")";
+                + "(" + namesOf(method.getParameterTypes()) + ")"
+                + (thrown.isEmpty() ? "" : " throws " + thrown);
+    }
+
+    private static String namesOf(Class<?>[] types) {
+        StringBuilder names = new StringBuilder();
+        for (Class<?> type : types) {
+            names.append(names.length() == 0 ? "" : ", ").append(type.getSimpleName());
+        }
+        return names.toString();
     }
 
     private static void fieldsArePrivate() {

@@ -15,6 +15,7 @@ final class SourceTest {
     }
 
     static void run(Path source) throws IOException {
+        Check.noPromise();
         boolean comment = false;
         int line = 0;
         for (String text : Files.readAllLines(source)) {
