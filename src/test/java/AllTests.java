@@ -1,6 +1,6 @@
 import java.nio.file.Path;
 
-/** Runs every test of the project; its argument is the path of AtlasFolder.java. */
+/** Runs every test of the project; its arguments are the paths of AtlasFolder.java and README.md. */
 public final class AllTests {
 
     private AllTests() {
@@ -15,6 +15,7 @@ public final class AllTests {
         RefusedTest.run();
         RunsTest.run();
         SourceTest.run(Path.of(args.length > 0 ? args[0] : "src/main/java/AtlasFolder.java"));
+        ReadmeTest.run(Path.of(args.length > 1 ? args[1] : "README.md"));
         Check.everyPromiseWasChecked();
         System.out.println(Check.sum());
         if (Check.failures() != 0) {
